@@ -20,8 +20,18 @@ final class Check {
         try {
             return Integer.toString(call.answer());
         } catch (RuntimeException e) {
-            return "throws." + e.getClass().getSimpleName();
+            return "throws." + e.getClass().getSimpleName() + (isThrownByItself(e) ? "" : " by the library");
         }
+    }
+
+    // A list's own IndexOutOfBoundsException would look as if the class had tested the index.
+    private static boolean isThrownByItself(RuntimeException e) {
+        StackTraceElement[] trace = e.getStackTrace();
+        if (trace.length == 0) {
+            return false;
+        }
+        String name = trace[0].getClassName();
+        return name.equals("TernaryNet") || name.equals("PlainNet");
     }
 
     static void same(String what, String got, String want) {

@@ -24,7 +24,8 @@ public final class CompareTest {
             {4, 12, 6, 10, 4, 4, 4, 1, 4, 20, 1, 20}
         };
         for (int run = 0; run < 400; run++) {
-            new CompareTest(run * 7919L + 17, moods[run % moods.length], run % 9).runAll(run);
+            int inputs = run % 20 == 0 ? 12 : run % 9;
+            new CompareTest(run * 7919L + 17, moods[run % moods.length], inputs).runAll(run);
         }
         Check.end();
     }
