@@ -4,13 +4,39 @@ final class Check {
         int answer();
     }
 
+    interface Body {
+        void run();
+    }
+
+    private static final int MOST_TOLD = 40;
+
     private static int wrong = 0;
+    private static String running = "";
 
     private Check() {
     }
 
+    /** One named test: what goes wrong in it is told under its name and does not stop the others. */
+    static void test(String name, Body body) {
+        running = name;
+        int before = wrong;
+        try {
+            body.run();
+        } catch (RuntimeException e) {
+            tell("stopped by " + e);
+        }
+        running = "";
+        System.out.println((wrong == before ? "  holds   " : "  BROKEN  ") + name);
+    }
+
     static void due(String what, long got, long want) {
         if (got != want) {
+            tell(what + " answered " + got + ", due is " + want);
+        }
+    }
+
+    static void same(String what, String got, String want) {
+        if (!got.equals(want)) {
             tell(what + " answered " + got + ", due is " + want);
         }
     }
@@ -31,31 +57,36 @@ final class Check {
             return false;
         }
         String name = trace[0].getClassName();
-        return name.equals("TernaryNet") || name.equals("PlainNet");
+        return name.equals("TernaryNet") || name.startsWith("TernaryNet$") || name.equals("PlainNet");
     }
 
-    static void same(String what, String got, String want) {
-        if (!got.equals(want)) {
-            tell(what + " answered " + got + ", due is " + want);
-        }
+    static void index(String what, TernaryNet x, Call call) {
+        refused(what, x, call, "throws.IndexOutOfBoundsException");
     }
 
-    static void index(String what, Call call) {
-        same(what, told(call), "throws.IndexOutOfBoundsException");
+    static void argument(String what, TernaryNet x, Call call) {
+        refused(what, x, call, "throws.IllegalArgumentException");
     }
 
-    static void argument(String what, Call call) {
-        same(what, told(call), "throws.IllegalArgumentException");
+    static void state(String what, TernaryNet x, Call call) {
+        refused(what, x, call, "throws.IllegalStateException");
     }
 
-    static void state(String what, Call call) {
-        same(what, told(call), "throws.IllegalStateException");
+    static void none(String what, TernaryNet x, Call call) {
+        refused(what, x, call, Integer.toString(TernaryNet.NONE));
+    }
+
+    /** A refused call answers so, and all that can be asked of the net stays as it was. */
+    private static void refused(String what, TernaryNet x, Call call, String want) {
+        String before = Nets.picture(x);
+        same(what, told(call), want);
+        same("the net after " + what, Nets.picture(x), before);
     }
 
     private static void tell(String text) {
         wrong++;
-        if (wrong <= 40) {
-            System.out.println(text);
+        if (wrong <= MOST_TOLD) {
+            System.out.println(running.isEmpty() ? text : running + ": " + text);
         }
     }
 
