@@ -98,25 +98,25 @@ public final class Promise3Test {
     }
 
     private static void inputFed() {
-        TernaryNet x = Nets.small();
         for (int from = 0; from < 4; from++) {
             int f = from;
+            TernaryNet x = Nets.small();
             Check.state("feed(0, " + from + ", false)", x, () -> x.feed(0, f, false));
             Check.state("feed(0, " + from + ", true)", x, () -> x.feed(0, f, true));
+            x.set(0, 1);
+            Check.state("a known input", x, () -> x.feed(0, f, false));
+            Check.due("it has none", x.cut(0), 0);
         }
-        x.set(0, 1);
-        Check.state("a known input", x, () -> x.feed(0, 1, false));
-        Check.due("it has none", x.cut(0), 0);
     }
 
     private static void latchFedTwice() {
-        TernaryNet x = Nets.small();
         for (int from = 0; from < 4; from++) {
             int f = from;
+            TernaryNet x = Nets.small();
             Check.state("feed(1, " + from + ", false)", x, () -> x.feed(1, f, false));
             Check.state("feed(1, " + from + ", true)", x, () -> x.feed(1, f, true));
+            Check.due("it has one", x.cut(1), 1);
         }
-        Check.due("it has one", x.cut(1), 1);
     }
 
     private static void latchFedOnce() {
@@ -130,8 +130,8 @@ public final class Promise3Test {
     }
 
     private static void indexBeforeState() {
-        TernaryNet x = Nets.small();
-        for (int g : Nets.outside(x)) {
+        for (int g : Nets.outside(Nets.small())) {
+            TernaryNet x = Nets.small();
             Check.index("an input from " + g, x, () -> x.feed(0, g, false));
             Check.index("a fed latch from " + g, x, () -> x.feed(1, g, false));
         }

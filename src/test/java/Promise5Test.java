@@ -77,8 +77,8 @@ public final class Promise5Test {
     }
 
     private static void noInput() {
-        TernaryNet x = Nets.small();
         for (int g = 1; g <= 3; g++) {
+            TernaryNet x = Nets.small();
             for (int v = 0; v <= 2; v++) {
                 int h = g;
                 int w = v;
@@ -99,8 +99,8 @@ public final class Promise5Test {
     }
 
     private static void noInputNoValue() {
-        TernaryNet x = Nets.small();
         for (int g = 1; g <= 3; g++) {
+            TernaryNet x = Nets.small();
             for (int v : NO_VALUES) {
                 int h = g;
                 Check.argument("set(" + g + ", " + v + ")", x, () -> x.set(h, v));
