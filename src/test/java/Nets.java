@@ -38,6 +38,63 @@ final class Nets {
         return x;
     }
 
+    /**
+     * Inputs that are 1, 0 and unknown (0, 1, 2), latches that are 1 and 0 (3, 4), an and and an or on
+     * one cycle (5, 6): all that a gate can hold is there, so whatever a call upsets can be seen.
+     */
+    static TernaryNet lively() {
+        TernaryNet x = of(INPUT, INPUT, INPUT, LATCH, LATCH, AND, OR);
+        x.feed(3, 0, false);
+        x.feed(4, 1, false);
+        x.set(0, 1);
+        x.set(1, 0);
+        x.set(2, 0);
+        x.step();
+        x.set(2, UNKNOWN);
+        x.feed(5, 2, false);
+        x.feed(5, 3, false);
+        x.feed(5, 6, true);
+        x.feed(6, 5, false);
+        x.feed(6, 4, false);
+        return x;
+    }
+
+    /** The values of the lively net's inputs and latches. */
+    static void livelyHolds(String what, TernaryNet x) {
+        int[] values = {1, 0, 2, 1, 0};
+        for (int g = 0; g < values.length; g++) {
+            Check.due(what + ": gate " + g + " holds", x.value(g), values[g]);
+        }
+    }
+
+    /** How many feeds each gate had: all are cut. */
+    static void feedsWere(String what, TernaryNet x, int... feeds) {
+        for (int g = 0; g < feeds.length; g++) {
+            Check.due(what + ": feeds of gate " + g, x.cut(g), feeds[g]);
+        }
+        Check.due(what + ": feeds left", x.count(1), 0);
+    }
+
+    /** Asking changes nothing: a net that was asked looks and goes on as its twin that was not. */
+    static void asking(String what, GateCall call) {
+        TernaryNet x = lively();
+        TernaryNet twin = lively();
+        for (int times = 0; times < 2; times++) {
+            for (int g = 0; g < x.count(0); g++) {
+                call.answer(x, g);
+            }
+            Check.same("the net after " + what, picture(x), picture(twin));
+            Check.due("the input before", x.set(2, 0), twin.set(2, 0));
+            call.answer(x, 5);
+            Check.due("step", x.step(), twin.step());
+            Check.same("the net after a step", picture(x), picture(twin));
+            Check.due("the input before", x.set(2, 2), twin.set(2, 2));
+            call.answer(x, 6);
+            Check.due("reset", x.reset(), twin.reset());
+            Check.due("cut", x.cut(6), twin.cut(6));
+        }
+    }
+
     /** 600 gates, 12 of them inputs: more calls than are promised, but the limit is a term's own. */
     static TernaryNet fullOfGates() {
         TernaryNet x = new TernaryNet();
@@ -70,9 +127,12 @@ final class Nets {
         }
         told.append(x.choices());
         for (int g = 0; g < x.count(0); g++) {
-            told.append(" | ").append(x.value(g)).append(' ').append(x.round(g));
-            told.append(' ').append(x.blame(g)).append(' ').append(x.cycle(g));
+            told.append(pictureOf(x, g));
         }
         return told.toString();
+    }
+
+    static String pictureOf(TernaryNet x, int g) {
+        return " | " + x.value(g) + " " + x.round(g) + " " + x.blame(g) + " " + x.cycle(g);
     }
 }

@@ -11,6 +11,7 @@ public final class Promise10Test {
         Check.test("promise 10: a gate that feeds itself", Promise10Test::ofItself);
         Check.test("promise 10: gate 0 can be blamed", Promise10Test::gateZero);
         Check.test("promise 10: negated and repeated feeds are blamed too", Promise10Test::negated);
+        Check.test("promise 10: asking changes nothing", Promise10Test::asking);
         Check.test("promise 10: IndexOutOfBoundsException when the gate is not there", Promise10Test::outside);
         Check.end();
     }
@@ -120,6 +121,10 @@ public final class Promise10Test {
         x.feed(3, 1, false);
         Check.due("negated twice", x.blame(2), 1);
         Check.due("negated between", x.blame(3), 0);
+    }
+
+    private static void asking() {
+        Nets.asking("blame", (x, g) -> x.blame(g));
     }
 
     private static void outside() {

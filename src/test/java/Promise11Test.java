@@ -7,6 +7,7 @@ public final class Promise11Test {
         Check.test("promise 11: NONE where feeds make no cycle", Promise11Test::noCycle);
         Check.test("promise 11: NONE before and behind a cycle", Promise11Test::besideACycle);
         Check.test("promise 11: what feeds a latch makes no cycle", Promise11Test::throughALatch);
+        Check.test("promise 11: a latch or an input beside a cycle is none of its part", Promise11Test::besideALatch);
         Check.test("promise 11: a gate that feeds itself", Promise11Test::ownFeed);
         Check.test("promise 11: a cycle of two, gate 0 among them", Promise11Test::two);
         Check.test("promise 11: the least gate of the part, wherever the cycle begins", Promise11Test::leastOfARing);
@@ -18,6 +19,7 @@ public final class Promise11Test {
         Check.test("promise 11: a full net as one ring", Promise11Test::longestRing);
         Check.test("promise 11: a full net as many rings", Promise11Test::manyRings);
         Check.test("promise 11: a full net with all its feeds", Promise11Test::allFeeds);
+        Check.test("promise 11: asking changes nothing", Promise11Test::asking);
         Check.test("promise 11: IndexOutOfBoundsException when the gate is not there", Promise11Test::outside);
         Check.end();
     }
@@ -60,6 +62,19 @@ public final class Promise11Test {
         x.feed(3, 3, true);
         parts("through a latch", x, NONE, NONE, NONE, NONE);
         Check.due("no part", x.count(6), 0);
+    }
+
+    private static void besideALatch() {
+        TernaryNet x = Nets.of(0, 1, 2, 3, 1);
+        x.feed(2, 3, false);
+        x.feed(3, 2, false);
+        x.feed(2, 0, false);
+        x.feed(3, 1, false);
+        x.feed(1, 2, false);
+        x.feed(4, 3, true);
+        x.feed(2, 4, false);
+        parts("a latch on a second way round", x, NONE, NONE, 2, 2, NONE);
+        Check.due("one part", x.count(6), 1);
     }
 
     private static void ownFeed() {
@@ -200,6 +215,10 @@ public final class Promise11Test {
             x.gate(Nets.AND);
         }
         return x;
+    }
+
+    private static void asking() {
+        Nets.asking("cycle", (x, g) -> x.cycle(g));
     }
 
     private static void outside() {

@@ -10,6 +10,7 @@ public final class Promise12Test {
         Check.test("promise 12: inputs that are known stay", Promise12Test::knownStay);
         Check.test("promise 12: the latches are as they are", Promise12Test::latches);
         Check.test("promise 12: nothing changes", Promise12Test::changesNothing);
+        Check.test("promise 12: asking changes nothing for what follows either", Promise12Test::asking);
         Check.test("promise 12: what is known goes through long cycles either way", Promise12Test::longCycles);
         Check.test("promise 12: what is known goes to and fro in a cycle", Promise12Test::toAndFro);
         Check.test("promise 12: a full net", Promise12Test::fullNet);
@@ -130,6 +131,10 @@ public final class Promise12Test {
         Check.due("the unknown input", x.set(0, 0), 2);
         Check.due("the known one", x.set(4, 0), 1);
         Check.due("no latch is 1", x.reset(), 0);
+    }
+
+    private static void asking() {
+        Nets.asking("choices", (x, g) -> x.choices());
     }
 
     /** All inputs at one place of a two-way chain that hands the place's deciding value on. */

@@ -13,6 +13,7 @@ public final class Promise13Test {
         Check.test("promise 13: 7 whether the net settles", Promise13Test::settles);
         Check.test("promise 13: 7 a latch without a feed settles", Promise13Test::latchWithoutFeed);
         Check.test("promise 13: all counts as a net grows", Promise13Test::growing);
+        Check.test("promise 13: asking changes nothing", Promise13Test::asking);
         Check.end();
     }
 
@@ -165,6 +166,10 @@ public final class Promise13Test {
         x.step();
         x.cut(0);
         Check.due("at 1", x.count(7), 1);
+    }
+
+    private static void asking() {
+        Nets.asking("count", (x, g) -> x.count(g) + x.count(7));
     }
 
     private static void growing() {

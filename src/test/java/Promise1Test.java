@@ -6,6 +6,7 @@ public final class Promise1Test {
         Check.test("promise 1: no number is a gate's", Promise1Test::noGateIsThere);
         Check.test("promise 1: the first gate is 0", Promise1Test::firstGate);
         Check.test("promise 1: objects know nothing of each other", Promise1Test::objectsAreApart);
+        Check.test("promise 1: it answers as due to its 512th call", Promise1Test::lastCalls);
         Check.end();
     }
 
@@ -38,6 +39,17 @@ public final class Promise1Test {
     private static void firstGate() {
         for (int sort = 0; sort <= 3; sort++) {
             Check.due("gate(" + sort + ")", new TernaryNet().gate(sort), 0);
+        }
+    }
+
+    // 2 calls make the net; of the other 510 each step turns the latch.
+    private static void lastCalls() {
+        TernaryNet x = new TernaryNet();
+        Check.due("call 1", x.gate(Nets.LATCH), 0);
+        Check.due("call 2", x.feed(0, 0, true), 1);
+        for (int call = 3; call <= 511; call += 2) {
+            Check.due("call " + call, x.step(), 1);
+            Check.due("call " + (call + 1), x.value(0), (call - 1) / 2 % 2);
         }
     }
 

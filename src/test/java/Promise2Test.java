@@ -7,6 +7,7 @@ public final class Promise2Test {
         Check.test("promise 2: the sorts 0 .. 3 are what the terms say", Promise2Test::sorts);
         Check.test("promise 2: a new gate has no feeds", Promise2Test::noFeeds);
         Check.test("promise 2: a new gate is seen by what was asked before", Promise2Test::seenAtOnce);
+        Check.test("promise 2: a new gate leaves the others as they are", Promise2Test::othersStay);
         Check.test("promise 2: IllegalArgumentException when sort is not 0 .. 3", Promise2Test::wrongSorts);
         Check.test("promise 2: IllegalArgumentException with 12 inputs too", Promise2Test::wrongSortsAmongInputs);
         Check.test("promise 2: IllegalArgumentException with 600 gates too", Promise2Test::wrongSortsWhenFull);
@@ -58,6 +59,19 @@ public final class Promise2Test {
         Check.due("value", x.value(1), 1);
         Check.due("cycle", x.cycle(1), Nets.NONE);
         Check.due("choices", x.choices(), 2);
+    }
+
+    private static void othersStay() {
+        for (int sort = 0; sort <= 3; sort++) {
+            TernaryNet x = Nets.lively();
+            TernaryNet without = Nets.lively();
+            Check.due("the number", x.gate(sort), 7);
+            for (int g = 0; g < 7; g++) {
+                Check.same("gate " + g, Nets.pictureOf(x, g), Nets.pictureOf(without, g));
+            }
+            Nets.livelyHolds("sort " + sort, x);
+            Nets.feedsWere("sort " + sort, x, 0, 0, 0, 1, 1, 3, 2, 0);
+        }
     }
 
     private static void wrongSorts() {

@@ -7,6 +7,7 @@ public final class Promise3Test {
         Check.test("promise 3: ands and ors take any number of feeds", Promise3Test::anyNumber);
         Check.test("promise 3: a feed is taken as it is or negated", Promise3Test::negated);
         Check.test("promise 3: a feed is seen by what was asked before", Promise3Test::seenAtOnce);
+        Check.test("promise 3: states and the other gates' feeds stay", Promise3Test::restStays);
         Check.test("promise 3: IndexOutOfBoundsException when to is not there", Promise3Test::noTo);
         Check.test("promise 3: IndexOutOfBoundsException when from is not there", Promise3Test::noFrom);
         Check.test("promise 3: IndexOutOfBoundsException when both are not there", Promise3Test::noBoth);
@@ -83,6 +84,20 @@ public final class Promise3Test {
         x.feed(1, 0, true);
         Check.due("value", x.value(0), Nets.UNKNOWN);
         Check.due("cycle", x.cycle(1), 0);
+    }
+
+    private static void restStays() {
+        for (int from = 0; from < 7; from++) {
+            TernaryNet x = Nets.lively();
+            Check.due("an and", x.feed(5, from, false), 4);
+            Check.due("an or", x.feed(6, from, true), 3);
+            Nets.livelyHolds("a feed from " + from, x);
+            Nets.feedsWere("a feed from " + from, x, 0, 0, 0, 1, 1, 4, 3);
+        }
+        TernaryNet x = Nets.lively();
+        x.cut(3);
+        Check.due("a latch that is 1", x.feed(3, 1, false), 1);
+        Nets.livelyHolds("a latch's feed", x);
     }
 
     private static void noTo() {

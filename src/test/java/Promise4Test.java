@@ -7,6 +7,7 @@ public final class Promise4Test {
         Check.test("promise 4: feeds of itself go", Promise4Test::ownGo);
         Check.test("promise 4: a cut and or or is as one without feeds", Promise4Test::asNew);
         Check.test("promise 4: a cut latch keeps its state", Promise4Test::latchKeeps);
+        Check.test("promise 4: states and the other gates' feeds stay", Promise4Test::restStays);
         Check.test("promise 4: a cut is seen by what was asked before", Promise4Test::seenAtOnce);
         Check.test("promise 4: 2400 feeds of one gate go at once", Promise4Test::most);
         Check.test("promise 4: IndexOutOfBoundsException when the gate is not there", Promise4Test::outside);
@@ -84,6 +85,18 @@ public final class Promise4Test {
         Check.due("state", x.value(0), 1);
         Check.due("step without a feed", x.step(), 0);
         Check.due("state then", x.value(0), 1);
+    }
+
+    private static void restStays() {
+        int[] had = {0, 0, 0, 1, 1, 3, 2};
+        for (int g = 0; g < had.length; g++) {
+            TernaryNet x = Nets.lively();
+            Check.due("cut(" + g + ")", x.cut(g), had[g]);
+            Nets.livelyHolds("cut(" + g + ")", x);
+            int[] left = had.clone();
+            left[g] = 0;
+            Nets.feedsWere("after cut(" + g + ")", x, left);
+        }
     }
 
     private static void seenAtOnce() {

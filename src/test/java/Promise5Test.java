@@ -6,6 +6,7 @@ public final class Promise5Test {
         Check.test("promise 5: an input is unknown at first", Promise5Test::firstBefore);
         Check.test("promise 5: answers the value before, over all pairs of values", Promise5Test::pairs);
         Check.test("promise 5: only the input with the gate's number gets it", Promise5Test::onlyThatOne);
+        Check.test("promise 5: latches and feeds stay", Promise5Test::restStays);
         Check.test("promise 5: all twelve inputs can be set", Promise5Test::twelve);
         Check.test("promise 5: a set is seen by what was asked before", Promise5Test::seenAtOnce);
         Check.test("promise 5: IndexOutOfBoundsException when the gate is not there", Promise5Test::outside);
@@ -41,6 +42,18 @@ public final class Promise5Test {
         int[] values = {1, 2, 0, 1, 2};
         for (int g = 0; g < values.length; g++) {
             Check.due("value of " + g, x.value(g), values[g]);
+        }
+    }
+
+    private static void restStays() {
+        for (int v = 0; v <= 2; v++) {
+            TernaryNet x = Nets.lively();
+            for (int g = 0; g < 3; g++) {
+                x.set(g, v);
+            }
+            Check.due("the latch that is 1", x.value(3), 1);
+            Check.due("the latch that is 0", x.value(4), 0);
+            Nets.feedsWere("set to " + v, x, 0, 0, 0, 1, 1, 3, 2);
         }
     }
 

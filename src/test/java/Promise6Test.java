@@ -12,6 +12,7 @@ public final class Promise6Test {
         Check.test("promise 6: what was known once is not kept", Promise6Test::nothingKept);
         Check.test("promise 6: a chain of 250 gates", Promise6Test::longChain);
         Check.test("promise 6: the first and the last gate of a full net", Promise6Test::fullNet);
+        Check.test("promise 6: asking changes nothing", Promise6Test::asking);
         Check.test("promise 6: IndexOutOfBoundsException when the gate is not there", Promise6Test::outside);
         Check.end();
     }
@@ -164,6 +165,10 @@ public final class Promise6Test {
         Check.due("value(599)", x.value(599), values[599 % 3]);
         Check.due("value(598)", x.value(598), values[598 % 3]);
         Check.due("value(597)", x.value(597), values[597 % 3]);
+    }
+
+    private static void asking() {
+        Nets.asking("value", (x, g) -> x.value(g));
     }
 
     private static void outside() {

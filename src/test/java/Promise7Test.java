@@ -10,6 +10,7 @@ public final class Promise7Test {
         Check.test("promise 7: where none decides the last feed gives the round", Promise7Test::lastOfAll);
         Check.test("promise 7: rounds inside a cycle that settles", Promise7Test::inACycle);
         Check.test("promise 7: a full net as one chain: round 600", Promise7Test::longest);
+        Check.test("promise 7: asking changes nothing", Promise7Test::asking);
         Check.test("promise 7: IndexOutOfBoundsException when the gate is not there", Promise7Test::outside);
         Check.end();
     }
@@ -136,6 +137,10 @@ public final class Promise7Test {
         Check.due("value(0)", x.value(0), 1);
         Check.due("rounds", x.count(5), 600);
         Check.due("unknown", x.count(4), 0);
+    }
+
+    private static void asking() {
+        Nets.asking("round", (x, g) -> x.round(g));
     }
 
     private static void outside() {
