@@ -7,6 +7,8 @@ public final class Promise12Test {
         Check.test("promise 12: 0 where no choice settles", Promise12Test::never);
         Check.test("promise 12: all but one choice, whichever it is", Promise12Test::allButOne);
         Check.test("promise 12: one choice alone", Promise12Test::onlyOne);
+        Check.test("promise 12: ands and ors that are 0 and that are 1", Promise12Test::bothValues);
+        Check.test("promise 12: as many as settle when each choice is set", Promise12Test::oneByOne);
         Check.test("promise 12: inputs that are known stay", Promise12Test::knownStay);
         Check.test("promise 12: the latches are as they are", Promise12Test::latches);
         Check.test("promise 12: nothing changes", Promise12Test::changesNothing);
@@ -85,6 +87,66 @@ public final class Promise12Test {
                 Check.due("of " + n, x.choices(), 1);
             }
         }
+    }
+
+    /** A gate of all inputs, and one that feeds itself and is known when that gate is what it should be. */
+    private static void bothValues() {
+        for (int n = 1; n <= 12; n++) {
+            for (int sort = Nets.AND; sort <= Nets.OR; sort++) {
+                TernaryNet x = Nets.of(sort);
+                for (int i = 0; i < n; i++) {
+                    x.feed(0, x.gate(Nets.INPUT), false);
+                }
+                Check.due("known on all of " + n, x.choices(), 1 << n);
+                int own = x.gate(Nets.AND);
+                int ones = sort == Nets.AND ? 1 : (1 << n) - 1;
+                x.feed(own, own, false);
+                x.feed(own, 0, true);
+                Check.due("where sort " + sort + " of " + n + " is 1", x.choices(), ones);
+                x.cut(own);
+                x.feed(own, own, true);
+                x.feed(own, 0, false);
+                Check.due("where sort " + sort + " of " + n + " is 0", x.choices(), (1 << n) - ones);
+            }
+        }
+    }
+
+    private static void oneByOne() {
+        for (int run = 0; run < 600; run++) {
+            int n = run % 6;
+            TernaryNet x = mixed(run, n);
+            int told = x.choices();
+            int settling = 0;
+            for (int choice = 0; choice < 1 << n; choice++) {
+                for (int i = 0; i < n; i++) {
+                    x.set(2 + i, choice >> i & 1);
+                }
+                settling += x.count(7);
+            }
+            Check.due("net " + run, told, settling);
+        }
+    }
+
+    /** Latches that are 1 and 0, n unknown inputs, and eight ands and ors with up to three feeds. */
+    private static TernaryNet mixed(int run, int n) {
+        TernaryNet x = Nets.of(Nets.LATCH, Nets.LATCH);
+        x.feed(0, 0, true);
+        x.step();
+        for (int i = 0; i < n; i++) {
+            x.gate(Nets.INPUT);
+        }
+        for (int i = 0; i < 8; i++) {
+            x.gate(Nets.AND + i % 2);
+        }
+        int seed = run;
+        for (int i = 0; i < 24; i++) {
+            seed = seed * 1103515245 + 12345;
+            int from = (seed >>> 16) % (n + 12);
+            if (from < n + 10) {
+                x.feed(n + 2 + i % 8, from, (seed >>> 8 & 1) == 1);
+            }
+        }
+        return x;
     }
 
     private static void knownStay() {

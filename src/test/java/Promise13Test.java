@@ -169,7 +169,7 @@ public final class Promise13Test {
     }
 
     private static void asking() {
-        Nets.asking("count", (x, g) -> x.count(g) + x.count(7));
+        Nets.asking("count", (x, g) -> x.count(g) + x.count(7) + x.count(-1));
     }
 
     private static void growing() {
